@@ -210,6 +210,14 @@ public final class PromiseTest {
         fine(x, PromiseTest::land, "person 1;".repeat(6), 6);
         fine(x, PromiseTest::land, "duty 1;".repeat(60), 0);
 
+        // a text that fills the TAPE, with blanks, digits and letters at its end
+        String full = "duty 1;" + " ".repeat(593);
+        fine(x, PromiseTest::land, full, 0);
+        faulty(x, PromiseTest::land, full.substring(0, 588) + "duty 0000000", 1, 600);
+        faulty(x, PromiseTest::land, full.substring(0, 596) + "duty", 1, 600);
+        fine(x, PromiseTest::land, full.substring(0, 593) + "duty 2;", 0);
+        due(2, () -> x.told(2));
+
         // all that came before is gone
         land(x, TWO);
         law(x, "7");
@@ -344,6 +352,12 @@ public final class PromiseTest {
         faulty(x, t, "   ", 1, 3);
         faulty(x, t, "rents", 1, 0);
         faulty(x, t, "rentused", 1, 0);
+        faulty(x, t, "rentz", 1, 0);
+        faulty(x, t, "arent", 1, 0);
+        faulty(x, t, "rent{", 1, 4);
+        faulty(x, t, "rent`", 1, 4);
+        faulty(x, t, "1:", 1, 1);
+        faulty(x, t, "l", 1, 0);
         faulty(x, t, "2rent", 1, 1);
         faulty(x, t, "rent rent", 1, 5);
         faulty(x, t, "rent+", 1, 5);
@@ -575,8 +589,9 @@ public final class PromiseTest {
         WidowSeven x = in(TWO);
         due(-1, x::undo);
         work(x, "use 1 3 1;use 1 3 1;sell 9 0 3;rent 9 2;day;use 0 0 0;");
-        work(x, "sell 7 1 0;");
+        work(x, "sell 7 1 0;rent 50 1;");
         due(1, () -> x.number(7, 0));
+        due(1, () -> x.told(6));
         due(1, x::undo);
         due(0, () -> x.number(7, 0));
         due(1, () -> x.told(1));
@@ -614,6 +629,14 @@ public final class PromiseTest {
             int w = what;
             due("told " + w, want[w], () -> x.told(w));
         }
+        WidowSeven y = in("person 999;person 999;person 999;person 999;person 999;person 999;own 0 0 1;own 60 5 1;");
+        work(y, "use 0 0 0;use 5 60 0;");
+        due(2, () -> y.told(3));
+        due(2, () -> y.told(4));
+        due(6, () -> y.told(0));
+        due(5994, () -> y.told(7));
+        due(0, () -> y.person(0, 4));
+        due(60, () -> y.person(5, 3));
         due(ILLEGAL, () -> x.told(-1));
         due(ILLEGAL, () -> x.told(8));
         work(x, "");
@@ -803,6 +826,20 @@ public final class PromiseTest {
         speak(u, 29, 0, 3, 2, 36, 7);
         speak(u, 57, 0, 3, 1, 7, 50);
         speak(u, 49, 0, 4, 3, 7, 7);
+        // the least and the greatest NUMBER take part; a difference comes ahead of a product
+        WidowSeven v = allButFree("duty 0;", 60, 53, 5, 3, 20);
+        law(v, "99");
+        speak(v, 7, 0, 2, 2, 60, 53);
+        speak(v, 55, 0, 2, 2, 60, 5);
+        speak(v, 15, 0, 2, 2, 20, 5);
+        WidowSeven top = allButFree("duty 1;", 30, 0);
+        law(top, "9");
+        speak(top, 60, 1, 2, 1, 30, 30);
+        WidowSeven none = allButFree("duty 1;", 0);
+        law(none, "number+1");
+        speak(none, 0, 0, 1, 0, -1, -1);
+        // 3 times 4 times 5: 4 + 5 + 6, and two duties
+        speak(none, 60, 17, 3, 3, 3, 20);
         due(NO_SUCH, () -> x.saying(61, 3));
         due(NO_SUCH, () -> x.saying(-1, 0));
         due(ILLEGAL, () -> x.saying(60, 3));
@@ -822,6 +859,10 @@ public final class PromiseTest {
             int number = n;
             due("leaves of " + n, want[n], () -> y.leaves(number));
         }
+        // asked first of a new object, and first behind another LAW
+        due(2, () -> in(TWO).leaves(7));
+        law(x, "0");
+        due(1, () -> x.leaves(7));
         due(NO_SUCH, () -> x.leaves(61));
         due(NO_SUCH, () -> x.leaves(-1));
     }
@@ -932,6 +973,12 @@ public final class PromiseTest {
         // 0 is in no row
         WidowSeven y = in("person 0;own 0 0 10;");
         due(0, () -> y.meant(5, 1, 0));
+        WidowSeven z = in("person 0;own 60 0 1;own 1 0 1;");
+        law(z, "99");
+        due(4, () -> z.meant(297, 3, 0));
+        due(10101, () -> z.meant(297, 3, 1));
+        due(3, () -> z.meant(198, 2, 0));
+        due(2, () -> z.meant(99, 1, 0));
         due(ILLEGAL, () -> x.meant(-1, 1, 0));
         due(ILLEGAL, () -> x.meant(298, 1, 0));
         due(ILLEGAL, () -> x.meant(0, 0, 0));
@@ -964,6 +1011,13 @@ public final class PromiseTest {
         due(1, () -> y.look(6, 2, 1));
         due(10, () -> y.look(10, 3, 0));
         due(1, () -> y.look(10, 3, 1));
+        // the last of three tells: 10 10 20 or 10 10 30
+        WidowSeven z = in("person 0;own 10 0 6;own 20 0 8;own 30 0 8;");
+        due(2, () -> z.meant(10, 3, 0));
+        due(20, () -> z.look(10, 3, 0));
+        due(1, () -> z.look(10, 3, 1));
+        // 1 2 or 1 3: the second NUMBER tells
+        due(2, () -> in("person 0;own 1 0 2;own 2 0 4;own 3 0 4;").look(3, 2, 0));
         due(ILLEGAL, () -> x.look(298, 1, 0));
         due(ILLEGAL, () -> x.look(-1, 1, 0));
         due(ILLEGAL, () -> x.look(0, 0, 0));
@@ -980,6 +1034,11 @@ public final class PromiseTest {
             due("above of " + row[0], row[1], () -> x.dice(row[0], 0));
             due("below of " + row[0], row[2], () -> x.dice(row[0], 1));
         }
+        WidowSeven y = in("person 0;own 0 0 40;own 1 0 4;own 60 0 6;");
+        due(2, () -> y.dice(1, 0));
+        due(1, () -> y.dice(1, 1));
+        due(1, () -> y.dice(60, 0));
+        due(12, () -> y.dice(60, 1));
         due(ILLEGAL, () -> x.dice(0, 0));
         due(ILLEGAL, () -> x.dice(61, 0));
         due(ILLEGAL, () -> x.dice(1, 2));
@@ -1050,6 +1109,9 @@ public final class PromiseTest {
         due(36, () -> x.landlord(1));
         WidowSeven y = in("person 1;person 1;person 1;own 1 1 5;own 2 2 5;");
         due("of alike ones the first", 1, () -> y.landlord(0));
+        WidowSeven first = in("person 1;person 1;own 0 0 1;");
+        due(0, () -> first.landlord(0));
+        due(1, () -> first.landlord(1));
         WidowSeven z = in("person 1;own 1 0 0;");
         due(-1, () -> z.landlord(0));
         due(-1, () -> z.landlord(1));
@@ -1078,6 +1140,7 @@ public final class PromiseTest {
         due(1, () -> x.affords(1, 3, 1));
         due(2, () -> x.affords(1, 3, 2));
         due(8, () -> x.affords(0, 4, 0));
+        due("all his coins", 5, () -> in("person 50;person 0;own 5 1 10;").affords(0, 5, 0));
         due("his own", 999, () -> x.affords(0, 7, 0));
         due("nobody's", 999, () -> x.affords(1, 5, 0));
         due("for nothing", 999, () -> x.affords(0, 1, 0));
@@ -1103,6 +1166,7 @@ public final class PromiseTest {
         due(282, () -> x.worth(0));
         due(363, () -> x.worth(1));
         due(0, () -> x.worth(2));
+        due(11 + 21, () -> in("person 0;own 0 0 1;own 60 0 2;").worth(0));
         due(NO_SUCH, () -> x.worth(3));
         due(NO_SUCH, () -> x.worth(-1));
     }
