@@ -1,16 +1,5 @@
-import java.util.NoSuchElementException;
-import java.util.function.IntSupplier;
-
 /** For each promise of the document: ordinary inputs, the edges that it names, wrong inputs; all worked out by hand. */
-public final class PromiseTest {
-    private static final int NO_SUCH = Integer.MIN_VALUE;
-    private static final int ILLEGAL = Integer.MIN_VALUE + 1;
-    private static final String TWO = "person 50;person 5;own 7 0 20;own 3 0 8;own 4 1 6;own 14 1 30;own 1 1 0;duty 1;";
-
-    private static String promise = "";
-    private static int checks;
-    private static int wrong;
-
+public final class PromiseTest extends Checks {
     public static void main(String[] args) {
         newObject();
         feed();
@@ -56,99 +45,7 @@ public final class PromiseTest {
         restore();
         status();
         count();
-        System.out.println("promises: " + checks + " checks, " + wrong + " wrong");
-        if (wrong != 0) {
-            System.exit(1);
-        }
-    }
-
-    // ---- how a test is told ----
-
-    private static void about(String what) {
-        promise = what;
-    }
-
-    private static int answer(IntSupplier call) {
-        try {
-            return call.getAsInt();
-        } catch (NoSuchElementException e) {
-            return NO_SUCH;
-        } catch (IllegalArgumentException e) {
-            return ILLEGAL;
-        }
-    }
-
-    private static void due(int want, IntSupplier call) {
-        due("", want, call);
-    }
-
-    private static void due(String which, int want, IntSupplier call) {
-        checks++;
-        int got = answer(call);
-        if (got != want) {
-            wrong++;
-            StackTraceElement[] trace = new Throwable().getStackTrace();
-            int line = 0;
-            for (StackTraceElement at : trace) {
-                line = line == 0 && !at.getMethodName().equals("due") ? at.getLineNumber() : line;
-            }
-            System.out.println(promise + " (line " + line + ") " + which + ": answered " + got + ", due is " + want);
-        }
-    }
-
-    /** Puts a text on the TAPE; what is fed beyond it is no blank, so that a call that reads too far is seen. */
-    private static int put(WidowSeven x, String text) {
-        for (int i = 0; i < text.length(); i += 20) {
-            int[] f = new int[5];
-            for (int j = 0; j < 20; j++) {
-                f[j / 4] = f[j / 4] << 8 | (i + j < text.length() ? text.charAt(i + j) : 255);
-            }
-            x.feed(f[0], f[1], f[2], f[3], f[4]);
-        }
-        return text.length();
-    }
-
-    private static int land(WidowSeven x, String text) {
-        return x.land(put(x, text));
-    }
-
-    private static int law(WidowSeven x, String text) {
-        return x.law(put(x, text));
-    }
-
-    private static int work(WidowSeven x, String text) {
-        return x.work(put(x, text));
-    }
-
-    private static int book(WidowSeven x, String text) {
-        return x.book(put(x, text));
-    }
-
-    private static WidowSeven in(String text) {
-        WidowSeven x = new WidowSeven();
-        checks++;
-        if (land(x, text) < 0) {
-            wrong++;
-            System.out.println(promise + ": the land has a fault at " + x.fault() + ": " + text);
-        }
-        return x;
-    }
-
-    private interface Teller {
-        int tell(WidowSeven x, String text);
-    }
-
-    /** The text has such a FAULT at such a place. */
-    private static void faulty(WidowSeven x, Teller teller, String text, int kind, int place) {
-        due(text, kind - 10, () -> teller.tell(x, text));
-        due(text, place, x::fault);
-        due(text, 0, () -> x.count(1));
-    }
-
-    private static void fine(WidowSeven x, Teller teller, String text, int want) {
-        due(text, want, () -> teller.tell(x, text));
-        due(text, -1, x::fault);
-        due(text, 0, () -> x.count(1));
+        end("promises");
     }
 
     // ---- promises 1 to 8 ----
@@ -736,35 +633,6 @@ public final class PromiseTest {
     }
 
     // ---- promises 14 to 24 ----
-
-    /** One who lets all NUMBERS but those named, by a RENT of 40; DUTY as told. */
-    private static WidowSeven allButFree(String duty, int... free) {
-        StringBuilder s = new StringBuilder("person9;").append(duty);
-        int left = 0;
-        for (int n = 0; n <= 60; n++) {
-            boolean isFree = false;
-            for (int f : free) {
-                isFree |= f == n;
-            }
-            if (!isFree && left < 58 && s.length() < 590) {
-                s.append("own").append(n).append(" 0 9;");
-                left++;
-            }
-        }
-        WidowSeven x = in(s.toString());
-        StringBuilder rest = new StringBuilder();
-        for (int n = 0; n <= 60; n++) {
-            boolean isFree = false;
-            for (int f : free) {
-                isFree |= f == n;
-            }
-            if (!isFree && x.number(n, 0) < 0) {
-                rest.append("sell ").append(n).append(" 0 0;rent ").append(n).append(" 9;");
-            }
-        }
-        work(x, rest.toString());
-        return x;
-    }
 
     private static void speak(WidowSeven x, int number, int... want) {
         due("cost of " + number, want[0], () -> x.cost(number));
