@@ -74,6 +74,15 @@ final class AskedBoundaries extends Boundaries {
                 due("person " + q + " " + w, want[q][w], () -> x.person(q, w));
             }
         }
+        WidowSeven ends = in("person 0;person 0;person 0;own 60 0 1;own 0 1 2;");
+        due("60 alone is the least, too", 60, () -> ends.person(0, 3));
+        due(60, () -> ends.person(0, 4));
+        due("0 alone is the greatest, too", 0, () -> ends.person(1, 4));
+        due(0, () -> ends.person(1, 3));
+        due("there is no 61", -1, () -> ends.person(2, 4));
+        due(-1, () -> in("person 5;").person(0, 4));
+        due(-1, () -> in("person 5;").person(0, 3));
+        due(0, () -> in("person 5;").person(0, 1));
         WidowSeven all = allButFree("");
         due(61, () -> all.person(0, 1));
         due(61 * 9, () -> all.person(0, 2));
@@ -381,6 +390,19 @@ final class AskedBoundaries extends Boundaries {
         bought(x, 283, 42, 7);
         bought(x, 9999, 42, 7);
 
+        sentence(19, "(of each its FARE said, as often as the BOOK tells, at the FARES as they are now)");
+        WidowSeven now = in("person 9;own 7 0 1;own 8 0 1;");
+        law(now, "used*10+way");
+        book(now, "7 1;8 30;");
+        bought(now, 9999, 31, 3);
+        work(now, "use 0 7 0;");
+        bought(now, 9999, 41, 3);
+        bought(now, 11, 30, 2);
+        work(now, "again 3[use 0 7 0;];");
+        bought(now, 11, 41, 1);
+        work(now, "day;");
+        bought(now, 9999, 31, 3);
+
         sentence(19, "of alike ones the least bits (lines of the BOOK from the lowest bit on)");
         WidowSeven y = in("person 0;own 1 0 4;own 2 0 4;own 3 0 0;own 4 0 1;");
         book(y, "3 30;2 5;1 5;4 9;");
@@ -464,6 +486,15 @@ final class AskedBoundaries extends Boundaries {
         looks(ends, 12, 2, 1, 1);
         WidowSeven last = in("person 0;own 60 0 2;own 50 0 2;");
         looks(last, 2, 2, 50, 2);
+        // 10 and 30, two of 20, or 60 and one of 56 free ones
+        looks(in("person 0;own 10 0 2;own 20 0 4;own 30 0 6;own 60 0 8;"), 4, 2, 60, 56);
+        // 1 2 or 1 3: the second NUMBER tells; 10 10 20 or 10 10 30: the third one does
+        looks(in("person 0;own 1 0 2;own 2 0 4;own 3 0 4;"), 3, 2, 2, 1);
+        looks(in("person 0;own 10 0 6;own 20 0 8;own 30 0 8;"), 10, 3, 20, 1);
+        // 10 10 or 20 30, 10 10 30 or 20 30 30: what stands twice in a row is in it once
+        WidowSeven twice = in("person 0;own 10 0 6;own 20 0 4;own 30 0 8;");
+        looks(twice, 6, 2, 10, 1);
+        looks(twice, 10, 3, 10, 1);
         WidowSeven one = in("person 0;own 60 0 2;");
         looks(one, 1, 1, 1, 1);
         looks(one, 1, 2, 1, 58);
@@ -652,6 +683,7 @@ final class AskedBoundaries extends Boundaries {
         due(401 + 11, () -> x.worth(0));
         due("of no RENT", 1, () -> x.worth(1));
         due("of none", 0, () -> x.worth(2));
+        due("there is no 61", 0, () -> in("person 9;").worth(0));
         due(61 * 91, () -> allButFree("").worth(0));
         ranges("worth", (y, a) -> y.worth(a[0]), 1, of(0), of(1));
     }

@@ -77,9 +77,22 @@ final class TextBoundaries extends Boundaries {
         due("no byte of none", 0, () -> x.land(0));
         put(x, "person 3;person 4;  ");
         due("all bytes", 2, () -> x.land(20));
+        // a digit or a letter behind them is none of the text
+        put(x, "person 3;duty 1");
+        due(-9, () -> x.land(14));
+        due("the text ends behind \"duty \"", 14, x::fault);
+        put(x, "person 12;");
+        due(-9, () -> x.land(8));
+        due(8, x::fault);
+        put(x, "rents");
+        due(1, () -> x.law(4));
+        put(x, "99");
+        due(1, () -> x.law(1));
+        due(9, () -> x.would(0, 0, 0, 0, 0, 0));
 
         sentence(3, "no LAW, BOOK, IMAGES, nothing to undo");
         WidowSeven y = livedIn();
+        law(y, "77");
         due(2, () -> land(y, TWO));
         due("no LAW", 10, () -> y.fare(7, 1));
         due("no BOOK", 0, () -> y.told(5));
@@ -163,6 +176,8 @@ final class TextBoundaries extends Boundaries {
         fine(x, LAND, ahead + "duty 9;", 1);
         due("the last byte is read", 9, () -> x.told(2));
         faulty(x, LAND, ahead + "duty 9?", 1, 599);
+        faulty(x, LAND, ahead + "   duty", 1, 600);
+        faulty(x, LAND, ahead + "   dutz", 1, 596);
         faulty(x, LAND, ahead + " duty 9", 1, 600);
         faulty(x, LAND, ahead + "duty 99", 2, 598);
 
@@ -316,6 +331,15 @@ final class TextBoundaries extends Boundaries {
         due(4, () -> x.fare(1, 0));
         due(5, () -> x.fare(7, 0));
         due(15, () -> x.fare(60, 0));
+        law(x, "parts");
+        for (int n = 0; n <= 60; n++) {
+            int number = n;
+            int parts = 0;
+            for (int d = 1; d <= n; d++) {
+                parts += n % d == 0 ? 1 : 0;
+            }
+            due("parts of " + n, parts, () -> x.would(number, 0, 0, 0, 0, 0));
+        }
 
         sentence(4, "\"used\" (how often it was used by now), \"day\"");
         law(x, "used*10+day");
@@ -496,6 +520,8 @@ final class TextBoundaries extends Boundaries {
         faulty(y, WORK, "again 1[day;]", 1, 13);
         faulty(y, WORK, "again 1[day;;];", 1, 12);
         faulty(y, WORK, "again [day;];", 1, 6);
+        faulty(y, WORK, "again 0[day?];", 1, 11);
+        faulty(y, WORK, "again 0[rent 61 0;];", 2, 13);
         faulty(y, WORK, "again 1 day;];", 1, 8);
         faulty(y, WORK, "];", 1, 0);
         due(72, () -> y.told(1));
