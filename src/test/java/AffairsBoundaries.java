@@ -528,12 +528,24 @@ final class AffairsBoundaries extends Boundaries {
 
     private static void calls() {
         sentence(40, "An object is used for at most 512 calls after it has been made");
-        WidowSeven x = livedIn();
-        String before = seen(x);
-        WidowSeven y = livedIn();
-        for (int i = 0; i < 300; i++) {
-            y.told(i % 8);
+        WidowSeven x = new WidowSeven();
+        for (int i = 0; i < 102; i++) {
+            // "day;": five calls that come back to where they began
+            due(20, () -> x.feed(0x6461793b, 0, 0, 0, 0));
+            due(1, () -> x.work(4));
+            due(1, x::image);
+            due(0, x::restore);
+            due(0, x::undo);
         }
-        same(before, seen(y));
+        due("the 511th", ILLEGAL, () -> x.told(8));
+        due("the 512th", 1, () -> x.status(1));
+        WidowSeven y = in("person 9;person 0;own 7 0 40;own 60 0 9;");
+        int[] first = {y.span(7, 20, 96, 0), y.look(0, 3, 1), y.cost(7), y.round(0, 60, 0)};
+        for (int i = 0; i < 120; i++) {
+            due("dear calls, 480 of them", first[0], () -> y.span(7, 20, 96, 0));
+            due(first[1], () -> y.look(0, 3, 1));
+            due(first[2], () -> y.cost(7));
+            due(first[3], () -> y.round(0, 60, 0));
+        }
     }
 }
