@@ -356,6 +356,7 @@ final class AffairsBoundaries extends Boundaries {
             due("told " + w, greatest[w], () -> most.told(w));
         }
         due("all are somebody's", 61, () -> allButFree("").told(3));
+        due("RENTS are no uses", 0, () -> in("person 9;own 0 0 40;own 60 0 40;").told(4));
 
         sentence(9, "6 STEPS REFUSED by the latest WORK (0 ahead of any, behind undo(), restore())");
         WidowSeven y = in(TWO);

@@ -83,6 +83,9 @@ final class AskedBoundaries extends Boundaries {
         due(-1, () -> in("person 5;").person(0, 4));
         due(-1, () -> in("person 5;").person(0, 3));
         due(0, () -> in("person 5;").person(0, 1));
+        WidowSeven used = in("person 9;own 5 0 3;");
+        work(used, "use 0 0 0;");
+        due("RENTS of NUMBERS to 60 alone", 3, () -> used.person(0, 2));
         WidowSeven all = allButFree("");
         due(61, () -> all.person(0, 1));
         due(61 * 9, () -> all.person(0, 2));
@@ -858,6 +861,13 @@ final class AskedBoundaries extends Boundaries {
         lives("person 30;person 30;person 3;own 1 0 9;own 2 0 9;own 3 1 9;own 4 1 9;own 5 2 9;own 6 2 9;own 0 1 9;own 60 2 9;");
         lives("person 0;");
         lives("person 999;".repeat(6) + "own 0 5 40;own 60 0 40;");
+        WidowSeven late = in("person 0;".repeat(6));
+        for (int i = 0; i < 5; i++) {
+            work(late, "again 60[day;day;day;];");
+        }
+        due("six without coins, on DAY 900", 0, () -> late.year(1, 96, 2));
+        due(0, () -> late.year(1, 96, 1));
+        due("all is nobody's", 96, () -> late.year(1, 96, 0));
         ranges("year", (y, a) -> y.year(a[0], a[1], a[2]), 0, of(Integer.MIN_VALUE, 1, 0), of(Integer.MAX_VALUE, 96, 3), 1);
     }
 
